@@ -447,7 +447,7 @@ public final class ChartHouse {
             length = 0;
             int end = Math.min(size, text.length);
             int at = 0;
-            while (at < end) {
+            for (int i = 0; i < TAPE_LIMIT && at >= 0 && at < end; i++) {
                 int c = text[at];
                 if (c == 10 || c == 32) {
                     at++;
@@ -763,11 +763,14 @@ public final class ChartHouse {
 
         /** The clause of a kind for a signal (for any: the signal NONE) of a state, or -1. */
         int findClause(int process, int state, int kind, int signal) {
-            int from = firstClause(process, state);
-            int many = countClauses(process, state);
-            for (int i = from; i < from + many; i++) {
-                if (clauseKinds[i] == kind && clauseSignals[i] == signal) {
-                    return i;
+            if (process < 0 || process >= PROCESSES || state < 0 || state >= STATES) {
+                return -1;
+            }
+            int at = process * STATES + state;
+            for (int i = 0; i < clauses[at] && i < CLAUSES; i++) {
+                int clause = at * CLAUSES + i;
+                if (clauseKinds[clause] == kind && clauseSignals[clause] == signal) {
+                    return clause;
                 }
             }
             return -1;
@@ -1917,15 +1920,6 @@ public final class ChartHouse {
             return who == null ? -1 : Math.max(0, leastDue(who) - now);
         }
 
-        boolean isIdle() {
-            for (int i = 0; i < live && i < ROOM; i++) {
-                if (choose(slots[i]) != NOTHING) {
-                    return false;
-                }
-            }
-            return true;
-        }
-
         private Instance nextDue() {
             Instance first = null;
             for (int i = 0; i < live && i < ROOM; i++) {
@@ -2012,6 +2006,7 @@ public final class ChartHouse {
         private static final int GO_ON = 0;
         private static final int FOUND = 1;
         private static final int TOO_MUCH = 2;
+        private static final int NEW = 3;
         private static final int TABLE = 2048;
 
         private final World scratch;
@@ -2068,35 +2063,41 @@ public final class ChartHouse {
             return outcome == TOO_MUCH ? -2 : -1;
         }
 
+        /** Does from a state all that can be done in it: a turn of each instance, or else TIME. */
         private int expand(Plan plan, int from) {
             scratch.unpack(plan, pool, begins[from], times[from]);
             int many = scratch.live;
             boolean idle = true;
             boolean moved = false;
-            for (int i = 0; i < many && i < World.ROOM; i++) {
+            for (int i = 0; i <= many && i <= World.ROOM; i++) {
                 if (moved) {
                     scratch.unpack(plan, pool, begins[from], times[from]);
-                    moved = false;
                 }
                 int given = scratch.given;
-                int id = scratch.slots[i].id;
-                if (scratch.takeTurn(scratch.slots[i]) == World.NOTHING) {
-                    continue;
+                int deed = TIME;
+                if (i < many && i < World.ROOM) {
+                    deed = scratch.slots[i].id;
+                    moved = scratch.takeTurn(scratch.slots[i]) != World.NOTHING;
+                    idle = idle && !moved;
+                } else {
+                    int wait = scratch.timeToGo();
+                    moved = idle && wait >= 0;
+                    if (moved) {
+                        scratch.goOn(wait);
+                    }
                 }
-                idle = false;
-                moved = true;
-                int outcome = meet(from, id, given);
+                int outcome = moved ? meet(from, deed, given) : GO_ON;
+                if (outcome == NEW) {
+                    outcome = isLookedFor() ? FOUND : GO_ON;
+                }
+                if (outcome == FOUND) {
+                    tellRow(from, deed);
+                }
                 if (outcome != GO_ON) {
                     return outcome;
                 }
             }
-            int wait = scratch.timeToGo();
-            if (!idle || wait < 0) {
-                return GO_ON;
-            }
-            int given = scratch.given;
-            scratch.goOn(wait);
-            return meet(from, TIME, given);
+            return GO_ON;
         }
 
         /** Looks at what an act made of the state that it was done in. */
@@ -2106,28 +2107,33 @@ public final class ChartHouse {
             }
             int size = scratch.pack(packed);
             int hash = hash(size);
-            boolean isNew = !isKnown(size, hash);
-            if (isNew) {
+            boolean known = isKnown(size, hash);
+            if (!known) {
                 if (states >= MOST_STATES) {
                     return TOO_MUCH;
                 }
                 remember(size, hash, from, deed, scratch.now);
             }
-            boolean found = what == LOSING && scratch.lost > 0
-                || what == THROWING && scratch.thrown > 0
-                || isNew && isLookedFor();
-            if (found) {
-                tellRow(from, deed);
+            if (what == LOSING && scratch.lost > 0 || what == THROWING && scratch.thrown > 0) {
+                return FOUND;
             }
-            return found ? FOUND : GO_ON;
+            return known ? GO_ON : NEW;
         }
 
         /** Whether the state that the scratch world is in is one that is looked for, whatever act led to it. */
         private boolean isLookedFor() {
-            if (what == STUCK) {
-                return scratch.timeToGo() < 0 && scratch.isIdle();
+            if (what == BEING_IN) {
+                return scratch.hasIn(process, state);
             }
-            return what == BEING_IN && scratch.hasIn(process, state);
+            if (what != STUCK || scratch.timeToGo() >= 0) {
+                return false;
+            }
+            for (int i = 0; i < scratch.live && i < World.ROOM; i++) {
+                if (scratch.choose(scratch.slots[i]) != World.NOTHING) {
+                    return false;
+                }
+            }
+            return true;
         }
 
         private void tellRow(int from, int deed) {
@@ -2257,7 +2263,7 @@ public final class ChartHouse {
             lines = 0;
             length = 0;
             int at = 0;
-            while (length < MESSAGES && tokens.kindAt(at) != Tokens.FINISH) {
+            for (int i = 0; i < MESSAGES && tokens.kindAt(at) != Tokens.FINISH; i++) {
                 int bad = readMessage(tokens, at);
                 if (bad >= 0) {
                     return tokens.placeAt(bad);
@@ -2379,7 +2385,9 @@ public final class ChartHouse {
             if (trace.missed) {
                 return false;
             }
-            Arrays.fill(done, false);
+            for (int event = 0; event < EVENTS; event++) {
+                done[event] = false;
+            }
             for (int i = 0; i < trace.length && i < trace.kinds.length; i++) {
                 int kind = trace.kinds[i];
                 boolean counts = (kind == Trace.SENT || kind == Trace.TAKEN) && trace.peers[i] != Trace.LEFT_OUT;
