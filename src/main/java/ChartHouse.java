@@ -311,8 +311,9 @@ public final class ChartHouse {
         private int length;
 
         Names(int limit) {
-            heads = new long[limit];
-            tails = new int[limit];
+            int room = Math.max(0, limit);
+            heads = new long[room];
+            tails = new int[room];
             length = 0;
         }
 
@@ -1481,12 +1482,13 @@ public final class ChartHouse {
         boolean missed;
 
         Trace(int limit) {
-            kinds = new int[limit];
-            ids = new int[limit];
-            names = new int[limit];
-            values = new int[limit];
-            owners = new int[limit];
-            peers = new int[limit];
+            int room = Math.max(0, limit);
+            kinds = new int[room];
+            ids = new int[room];
+            names = new int[room];
+            values = new int[room];
+            owners = new int[room];
+            peers = new int[room];
             length = 0;
             missed = false;
         }
