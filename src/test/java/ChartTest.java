@@ -270,6 +270,16 @@ public final class ChartTest {
         z.time(9);
         z.run(1);
         fit(z, "a>a:t;", true);
+        // LOST at a full queue.
+        ChartHouse u = Checks.begun("process a(1){let n=0;start{next s;}state s{when(n<9){n=n+1;send m to b;}}}"
+            + "process b(1){start{next s;}state s{on m{}}}");
+        for (int i = 0; i < 10; i++) {
+            u.turn(0);
+        }
+        u.run(20);
+        checks.due("lost", 1, () -> u.count(9));
+        fit(u, "a>b:m;a>b:m;a>b:m;a>b:m;a>b:m;a>b:m;a>b:m;a>b:m;", true);
+        fit(u, "a>b:m;a>b:m;a>b:m;a>b:m;a>b:m;a>b:m;a>b:m;a>b:m;a>b:m;", false);
         // From outside LOST.
         ChartHouse w = Checks.begun("process a(1){start{next s;}state s{save k;on go{}}}");
         w.turn(0);

@@ -78,6 +78,20 @@ public final class TapeTest {
         checks.due("end part", 7, () -> x.end(7));
         checks.due("length", 7, () -> x.count(0));
         checks.due("feed behind", 27, () -> x.feed(1, 2, 3, 4, 5));
+        // What was cut off is not read, be it behind a name, a number or a sign.
+        ChartHouse y = Checks.begun("process a(1){let ab=3;start{next s;}state s{}}");
+        Checks.tape(y, "abcdef");
+        y.end(2);
+        checks.due("a name that was cut", 3, () -> y.variable(0));
+        Checks.tape(y, "process b(1){start{}}process c(1){start{}}");
+        y.end(21);
+        checks.due("a system that was cut", 1, () -> y.system());
+        Checks.tape(y, "process b(12){start{}}");
+        y.end(11);
+        checks.due("a number that was cut", -12, () -> y.system());
+        Checks.tape(y, "process b(1){start{say 1==1;}}");
+        y.end(25);
+        checks.due("a sign that was cut", -25, () -> y.system());
     }
 
     private static void word() {
