@@ -8,6 +8,8 @@ final class Checks {
 
     private int wrong;
     private int done;
+    private int sentences;
+    private String sentence = "";
 
     /** The answer of a call, or the name of what it throws, as the issues write it. */
     static String answerOf(Call call) {
@@ -18,11 +20,17 @@ final class Checks {
         }
     }
 
+    /** The promise and the words of the document that the checks behind this call are about. */
+    void sentence(int promise, String words) {
+        sentences++;
+        sentence = "promise " + promise + ", '" + words + "': ";
+    }
+
     void same(String what, String want, String got) {
         done++;
         if (!want.equals(got)) {
             wrong++;
-            System.out.println(what + ": answered " + got + ", due is " + want);
+            System.out.println(sentence + what + ": answered " + got + ", due is " + want);
         }
     }
 
@@ -36,6 +44,9 @@ final class Checks {
 
     /** Leaves with exit code 1 if something was wrong. */
     void finish() {
+        if (sentences > 0) {
+            System.out.print(sentences + " sentences: ");
+        }
         System.out.println(wrong == 0 ? done + " answers are as due" : wrong + " of " + done + " answers are not as due");
         if (wrong != 0) {
             System.exit(1);
@@ -123,6 +134,23 @@ final class Checks {
         int many = x.count(12);
         for (int i = 0; i < many; i++) {
             text.append(i > 0 ? " " : "").append(x.act(i));
+        }
+        return text.toString();
+    }
+
+    static String times(int many, String part) {
+        StringBuilder text = new StringBuilder();
+        for (int i = 0; i < many; i++) {
+            text.append(part);
+        }
+        return text.toString();
+    }
+
+    /** A part so many times, each # in it being the number of the time, from 0. */
+    static String numbered(int many, String part) {
+        StringBuilder text = new StringBuilder();
+        for (int i = 0; i < many; i++) {
+            text.append(part.replace("#", Integer.toString(i)));
         }
         return text.toString();
     }
