@@ -18,11 +18,14 @@ public final class BoundaryChartTest {
         firstThatCantStand();
         namesOfCharts();
         whatWasStays();
+        oneBehindTheOther();
         fitsNeedsBoth();
         emptyRun();
         allAreDone();
         nextOnItsLine();
         sameKindNameAndProcess();
+        allBytesOfNames();
+        comesFromInQueue();
         toItself();
         toAndFromOutside();
         lostOnesLeftOut();
@@ -101,6 +104,8 @@ public final class BoundaryChartTest {
     private static void outIsAnInstance() {
         checks.sentence(17, "INSTANCE a NAME or out .. 8 different INSTANCES");
         stands(4, "a>b:m;c>d:m;e>f:m;g>out:m;");
+        stands(4, "out>a:m;b>c:m;d>e:m;f>g:m;");
+        fault("out>a:m;b>c:m;d>e:m;f>g:m;@h>a:m;");
         stands(5, "a>b:m;c>d:m;e>f:m;g>out:m;out>a:m;");
         fault("a>b:m;c>d:m;e>f:m;g>out:m;@h>a:m;");
         fault(EIGHT + "@out>a:m;");
@@ -177,6 +182,27 @@ public final class BoundaryChartTest {
         checks.due("no RACE is left", 0, () -> y.races());
     }
 
+    private static void oneBehindTheOther() {
+        checks.sentence(17, "THE TAPE is the CHART (nothing is left of what was before)");
+        ChartHouse x = new ChartHouse();
+        for (int i = 0; i < 8; i++) {
+            // The messages have one NAME or several, so that the INSTANCES are not told in the same places.
+            String kind = i % 3 == 0 ? EIGHT : i % 3 == 1 ? "a>b:m;c>d:n;e>f:k;g>h:l;" : "a>a:m;b>b:n;c>d:m;e>f:n;g>out:m;";
+            String text = kind.replace("out", "Z").replace(">", i + ">").replace(":", i + ":").replace("Z" + i, "out");
+            int messages = i % 3 == 2 ? 5 : 4;
+            checks.due("8 INSTANCES of their own", messages, () -> Checks.chart(x, text));
+            checks.due("no RACE", 0, () -> x.races());
+            checks.due("a 9th", -1 - text.length(), () -> Checks.chart(x, text + "z>z:m;"));
+        }
+        for (int i = 0; i < 4; i++) {
+            String many = Checks.numbered(40, "a" + i + ">b" + i + ":m" + i + "x#;");
+            checks.due("40 messages", 40, () -> Checks.chart(x, many));
+            checks.due("RACES", 780, () -> x.races());
+            checks.due("none", 0, () -> Checks.chart(x, ""));
+            checks.due("no RACES", 0, () -> x.races());
+        }
+    }
+
     // ---------------------------------------------------------------- promise 18
 
     private static void fit(ChartHouse x, String text, boolean want) {
@@ -229,6 +255,13 @@ public final class BoundaryChartTest {
         fit(pingPong(3), "a>b:m;b>a:n;c>d:k;", false);
         fit(pingPong(1), "a>b:m;", false);
         fit(pingPong(0), "", true);
+        ChartHouse x = Checks.begun("process a(1){start{send k to b;send m to b;send l to b;next s;}state s{}}process b(1){start{next s;}state s{any{}}}");
+        x.run(9);
+        fit(x, "a>b:k;a>b:m;a>b:l;", true);
+        fit(x, "a>b:m;a>b:l;", false);
+        fit(x, "a>b:k;a>b:l;", false);
+        fit(x, "a>b:k;a>b:m;", false);
+        fit(x, "a>b:m;", false);
     }
 
     private static void nextOnItsLine() {
@@ -254,6 +287,37 @@ public final class BoundaryChartTest {
             "a>out:m;b>a:n;", "out>b:m;b>a:n;", "a>c:m;b>a:n;", "c>b:m;b>a:n;", "a>b:m;c>a:n;", "a>b:m;b>c:n;", "A>b:m;b>A:n;", "a>b:M;b>a:n;"}) {
             fit(pingPong(3), other, false);
         }
+    }
+
+    private static void allBytesOfNames() {
+        checks.sentence(18, "same .. NAME (all of its 12 bytes)");
+        ChartHouse x = Checks.begun("process Abcdefghijkl(1){start{send abcdefghijkl to self;next s;}state s{on abcdefghijkl{}}}");
+        x.run(9);
+        fit(x, "Abcdefghijkl>Abcdefghijkl:abcdefghijkl;", true);
+        for (int i = 0; i < 12; i++) {
+            char[] other = "abcdefghijkl".toCharArray();
+            other[i] = '0';
+            String name = new String(other);
+            if (i > 0) {
+                fit(x, "Abcdefghijkl>Abcdefghijkl:" + name + ";", false);
+                fit(x, "A" + name.substring(1) + ">A" + name.substring(1) + ":abcdefghijkl;", false);
+            }
+        }
+        fit(x, "Abcdefghijkl>Abcdefghijkl:abcdefghijk;", false);
+        fit(x, "Abcdefghijkl>Abcdefghijkl:abcdefgh;", false);
+    }
+
+    private static void comesFromInQueue() {
+        checks.sentence(18, "the PROCESS it .. comes from (of each SIGNAL in a QUEUE)");
+        ChartHouse x = Checks.begun("process a(1){start{send m to c;next s;}state s{}}process b(1){start{send m to c;next s;}state s{}}"
+            + "process c(1){start{next s;}state s{on m{}first t{}}}");
+        x.run(3);
+        Checks.outside(x, 2, "m", 0);
+        x.run(9);
+        fit(x, "a>c:m;b>c:m;out>c:m;", true);
+        fit(x, "b>c:m;a>c:m;out>c:m;", false);
+        fit(x, "a>c:m;out>c:m;b>c:m;", false);
+        fit(x, "a>c:m;a>c:m;out>c:m;", false);
     }
 
     private static void toItself() {
@@ -479,6 +543,9 @@ public final class BoundaryChartTest {
         raced(Checks.times(15, "a>b:m;b>a:m;") + "c>d:m;" + Checks.times(4, "a>b:m;b>a:m;") + "e>d:m;", "61-79");
         raced(Checks.times(16, "a>b:m;b>a:m;") + "c>d:m;" + Checks.times(3, "a>b:m;b>a:m;") + "e>d:m;", "65-79");
         raced("d>c:m;" + Checks.times(19, "a>b:m;b>a:m;") + "c>d:m;", "");
+        raced("d>e:m;" + Checks.times(15, "a>b:m;b>a:m;") + "a>b:m;c>d:m;", "0-65");
+        raced("e>d:m;" + Checks.times(15, "a>b:m;b>a:m;") + "a>b:m;c>d:m;", "1-65");
+        raced("d>e:m;" + Checks.times(15, "a>b:m;b>a:m;") + "a>b:m;c>f:m;f>d:m;", "0-67");
         raced("c>d:m;" + Checks.times(19, "a>b:m;b>a:m;") + "e>d:m;", "1-79");
         raced("d>c:m;" + Checks.times(18, "a>b:m;b>a:m;") + "c>a:m;a>b:m;b>d:m;", racesOfChain());
     }

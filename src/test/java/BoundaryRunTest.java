@@ -293,6 +293,9 @@ public final class BoundaryRunTest {
         outside(z, "m");
         checks.due("a SIGNAL goes ahead", 5, () -> z.turn(0));
         checks.due("then CONTINUOUS", 6, () -> z.turn(0));
+        ChartHouse w = Checks.begun("process a(1){start{next s;}state s{" + Checks.times(8, "when(0){}") + "}state t{when(1){}}}");
+        w.turn(0);
+        checks.due("not that of another STATE", 0, () -> w.turn(0));
     }
 
     private static void nothing() {
@@ -319,6 +322,7 @@ public final class BoundaryRunTest {
         Checks.outside(x, 0, "other", 8);
         x.run(2);
         checks.due("a CLAUSE without VARIABLE", 6, () -> Checks.variable(x, 0, "v"));
+        checks.due("nor another VARIABLE", 0, () -> Checks.variable(x, 0, "w"));
         outside(x, "go");
         x.run(2);
         checks.due("0 without", 0, () -> Checks.variable(x, 0, "v"));
@@ -374,6 +378,22 @@ public final class BoundaryRunTest {
         checks.due("none comes due", 0, () -> x.time(100));
         checks.due("nothing is left to do", 0, () -> x.run(10));
         checks.due("nothing is LOST or THROWN AWAY by that", 0, () -> x.count(9) + x.count(10));
+        checks.sentence(7, "make: .. else a new one (it has nothing of one that is gone)");
+        ChartHouse y = Checks.begun("process a(1){start{next s;}state s{on go{make b;}}}process b(1){let v=3;let w=4;"
+            + "start{v=8;w=9;set t 1;set u 1;send m to self;send m to self;make a;next s;}state s{on m{stop;}}}");
+        y.turn(0);
+        y.turn(1);
+        y.turn(1);
+        outside(y, "go");
+        y.turn(0);
+        int[] due = {1, -1, 0, 0, 0, -1, -1};
+        for (int what = 0; what < due.length; what++) {
+            int asked = what;
+            checks.due("look " + what, due[what], () -> y.look(3, asked));
+        }
+        checks.due("VARIABLE v", 3, () -> Checks.variable(y, 3, "v"));
+        checks.due("VARIABLE w", 4, () -> Checks.variable(y, 3, "w"));
+        checks.due("no TIMER", 0, () -> y.time(100));
     }
 
     private static void says(String expression, int want) {
@@ -534,11 +554,12 @@ public final class BoundaryRunTest {
         ChartHouse x = waiting(1);
         checks.due("1 is not at NOW", 0, () -> x.time(0));
         checks.due("but 1 later", 1, () -> x.time(1));
-        ChartHouse y = inState("on go{set t -1;}");
+        ChartHouse y = inState("on go{set p 0;set q -1;set r 0-1000000*2000;set t 0;}");
         y.time(77);
         outside(y, "go");
         y.turn(0);
-        checks.due("NOW is 77", 1, () -> y.time(0));
+        checks.due("NOW is 77", 4, () -> y.time(0));
+        same("all at NOW: as they were set", "6 0 p 0 | 6 0 q 0 | 6 0 r 0 | 6 0 t 0", last(y, 4));
     }
 
     private static void dueAtLatest() {
@@ -632,10 +653,11 @@ public final class BoundaryRunTest {
         checks.due("two are left", 2, () -> y.look(0, 3));
         y.time(5);
         same("a and c", "6 0 a 0 | 6 0 c 0", last(y, 2));
-        ChartHouse z = inState("save t;on go{send t to self;send t to self;send t to self;send t to self;}on end1{reset t;}");
-        outside(z, "go", "go");
-        z.run(2);
-        checks.due("8 of them", 8, () -> z.look(0, 2));
+        ChartHouse z = inState("save t;when(v<8){v=v+1;send t to self;}when(v==8){v=9;reset t;}");
+        checks.due("8 are sent", 8, () -> z.run(8));
+        checks.due("8 are in the QUEUE", 8, () -> z.look(0, 2));
+        checks.due("CONTINUOUS", 6, () -> z.turn(0));
+        checks.due("all 8 go", 0, () -> z.look(0, 2));
         ChartHouse w = inState("save t;on go{send t to self;send t to self;reset t;send t to self;}");
         outside(w, "t", "go", "t");
         w.turn(0);
@@ -670,6 +692,14 @@ public final class BoundaryRunTest {
         checks.due("and b again, when one is gone", 6, () -> x.look(0, 6));
         checks.due("its parent", 0, () -> x.look(6, 4));
         checks.due("1 is LOST", 1, () -> x.count(9));
+        ChartHouse y = inState("when(v<4){v=v+1;make a;}");
+        for (int i = 1; i <= 4; i++) {
+            int made = i < 4 ? i : -1;
+            checks.due("CONTINUOUS", 6, () -> y.turn(0));
+            checks.due("its own PROCESS counts itself", made, () -> y.look(0, 6));
+        }
+        checks.due("4 of a", 4, () -> y.count(3));
+        checks.due("1 is LOST", 1, () -> y.count(9));
     }
 
     private static void eightInstances() {
@@ -822,6 +852,11 @@ public final class BoundaryRunTest {
         y.turn(0);
         y.time(5);
         same("set again is set later", "6 0 q 0 | 6 0 r 0 | 6 0 p 0", last(y, 3));
+        ChartHouse w = inState("on go{set p 5;set q 5;set r 5;set t 1;}");
+        outside(w, "go");
+        w.turn(0);
+        checks.due("one", 1, () -> w.time(1));
+        same("the last that was set is due first", "6 0 t 0", last(w, 1));
         ChartHouse z = inState("on go{set p 3;}on on1{set q 1;}");
         outside(z, "go");
         z.turn(0);

@@ -21,6 +21,7 @@ public final class BoundaryTapeTest {
         wordRange();
         wordZeros();
         wordOfShorterOut();
+        lastOf512Calls();
         checks.finish();
     }
 
@@ -296,5 +297,29 @@ public final class BoundaryTapeTest {
         checks.due("word 0", 0x7A79000000000000L, () -> x.word(0));
         checks.due("word 1", 0x7900000000000000L, () -> x.word(1));
         checks.refused("word 2", IndexOutOfBoundsException.class, () -> x.word(2));
+    }
+
+    private static void lastOf512Calls() {
+        checks.sentence(1, "An object is used for at most 512 calls after it has been made (the last is as good as the first)");
+        String text = "process a(1){start{next s;}state s{any{}}}";
+        ChartHouse x = Checks.begun(text);
+        x.turn(0);
+        int calls = (text.length() + 19) / 20 + 3;
+        int names = 0;
+        // Each NAME is a new one: A, and two letters that count.
+        for (; calls + 3 <= 510; calls += 3) {
+            int letters = ('a' + names / 26) << 16 | ('a' + names % 26) << 8;
+            x.feed(0x41000020 | letters, BLANKS, BLANKS, BLANKS, BLANKS);
+            checks.due("NAME " + names + " comes", 1, () -> x.outside(0, 1));
+            checks.due("and is taken", 4, () -> x.turn(0));
+            names++;
+        }
+        for (; calls < 510; calls++) {
+            x.count(0);
+        }
+        int last = names - 1;
+        checks.due("the 511th", 3, () -> x.event(2 * last + 1, 3));
+        long due = 0x41L << 56 | (long) ('a' + last / 26) << 48 | (long) ('a' + last % 26) << 40;
+        checks.due("the 512th", due, () -> x.word(0));
     }
 }

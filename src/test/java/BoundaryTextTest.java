@@ -19,6 +19,7 @@ public final class BoundaryTextTest {
         numbersThatWrap();
         signs();
         empty();
+        onceAtMost();
         howMany();
         somethingLacks();
         firstThatCantStand();
@@ -29,6 +30,7 @@ public final class BoundaryTextTest {
         statesTooMuch();
         clausesTooMuch();
         allThatThereMayBe();
+        oneTooMuchInTheLast();
         notThere();
         orderOfFaults();
         bracketsWithin();
@@ -37,6 +39,8 @@ public final class BoundaryTextTest {
         mixedWithin();
         besideOneAnother();
         fullTape();
+        manyNames();
+        oneBehindTheOther();
         whatWasStays();
         checks.finish();
     }
@@ -236,6 +240,38 @@ public final class BoundaryTextTest {
         stands(1, inBlock("if(x){}else{}"));
     }
 
+    private static void onceAtMost() {
+        checks.sentence(4, "EXPR: SUM [== SUM] or SUM [< SUM] (once at most)");
+        stands(1, ofSay("1"));
+        stands(1, ofSay("1==2"));
+        stands(1, ofSay("1<2"));
+        stands(1, ofSay("(1<2)<(3==4)"));
+        fault(ofSay("1<2@<3"));
+        fault(ofSay("1==2@==3"));
+        fault(ofSay("1<2@==3"));
+        fault(ofSay("1==2@<3"));
+        checks.sentence(4, "on NAME [( NAME )], send NAME [( EXPR )], [else BLOCK] (once at most)");
+        stands(1, inState("on m{}on n(x){}first k{}first l(x){}"));
+        fault(inState("on m(x)@(y){}"));
+        fault(inState("on m(@){}"));
+        fault(inState("on m(x@,y){}"));
+        fault(inState("save m@(x);"));
+        fault(inState("any@(x){}"));
+        stands(1, inBlock("send m to out;send m(x)to out;if(x){}if(x){}else{}"));
+        fault(inBlock("send m(x)@(y)to out;"));
+        fault(inBlock("send m(@)to out;"));
+        fault(inBlock("if(x){}else{}@else{}"));
+        fault(inBlock("@else{}"));
+        checks.sentence(4, "start BLOCK (once, behind the VARIABLES and ahead of the STATES)");
+        fault("process a(0){@}");
+        fault("process a(0){@state s{}}");
+        fault("process a(0){let x=0;@}");
+        fault("process a(0){start{}@start{}}");
+        fault("process a(0){start{}state s{}@start{}}");
+        fault("process a(0){start{}@let x=0;}");
+        fault("process a(0){start{}state s{}@let x=0;}");
+    }
+
     private static void howMany() {
         checks.sentence(4, "NUMBER 0 .. 3: how many there are at first");
         for (int many = 0; many <= 3; many++) {
@@ -368,9 +404,10 @@ public final class BoundaryTextTest {
         checks.sentence(4, "6 PROCESSES, 6 VARIABLES, 8 STATES .., 8 CLAUSES (the last of each is as good as the first)");
         String five = Checks.numbered(5, "process p#(0){start{}}");
         String last = "process p5(1){" + Checks.numbered(6, "let v#=#;") + "start{next s7;}" + Checks.numbered(7, "state s#{}")
-            + "state s7{" + Checks.numbered(7, "on m#{}") + "on m7(v5){say v5;}}}";
+            + "state s7{" + Checks.numbered(6, "on m#{}") + "on m7(v5){say v5;}when(v5==-9){v5=-8;}}}";
         ChartHouse x = Checks.begun(five + last);
         x.turn(0);
+        checks.due("the when CLAUSE is not true yet", 0, () -> x.turn(0));
         checks.due("PROCESS", 5, () -> x.look(0, 0));
         checks.due("STATE", 7, () -> x.look(0, 1));
         checks.due("VARIABLE", 5, () -> Checks.variable(x, 0, "v5"));
@@ -378,6 +415,8 @@ public final class BoundaryTextTest {
         checks.due("CLAUSE", 3, () -> x.turn(0));
         checks.due("VARIABLE", -9, () -> Checks.variable(x, 0, "v5"));
         checks.due("the one beside it", 4, () -> Checks.variable(x, 0, "v4"));
+        checks.due("the when CLAUSE", 6, () -> x.turn(0));
+        checks.due("it is true no more", 0, () -> x.turn(0));
         stands(6, Checks.numbered(6, "process p#(3){" + "let a=1;let b=1;let c=1;let d=1;let e=1;let f=1;start{}"
             + "state a{}state b{}state c{}state d{}state e{}state f{}state g{}state h{}}"));
         StringBuilder states = new StringBuilder();
@@ -385,6 +424,17 @@ public final class BoundaryTextTest {
             states.append("state ").append(state).append("{on a{}on b{}on c{}on d{}first e{}save f;any{}when(1){}}");
         }
         stands(1, "process a(3){start{}" + states + "}");
+    }
+
+    private static void oneTooMuchInTheLast() {
+        checks.sentence(4, "one too much (.. 6 VARIABLES, 8 STATES .., 8 CLAUSES ..) (in the last PROCESS, in its last STATE)");
+        String five = Checks.numbered(5, "process p#(0){start{}}");
+        String six = Checks.numbered(6, "let v#=0;");
+        String eight = Checks.numbered(8, "state s#{}");
+        fault(five + "process p5(0){" + six + "let @v6=0;let v7=0;start{}}");
+        fault(five + "process p5(0){start{}" + eight + "state @s8{on m{}}state s9{on m{}}}");
+        fault(five + "process p5(0){start{}" + Checks.numbered(7, "state s#{}") + "state s7{" + Checks.numbered(8, "on m#{}") + "@on m8{}on m9{}}}");
+        fault(five + "process p5(0){" + six + "start{}" + eight + "}process @p6(0){" + six + "let v6=0;start{}" + eight + "state s8{any{}}}");
     }
 
     private static void notThere() {
@@ -531,6 +581,66 @@ public final class BoundaryTextTest {
         checks.due("INPUT", 3, () -> y.turn(0));
         fault(Checks.times(1999, " ") + "@#");
         fault("process" + Checks.times(1993, " ") + "@");
+    }
+
+    private static void manyNames() {
+        checks.sentence(4, "THE TAPE has at most 2000 bytes (with as many NAMES as there can be, again and again)");
+        ChartHouse x = new ChartHouse();
+        String letters = "abcdefghijklmnopqrstuvwxyzABCDEFGHIJKLMNOPQRSTUVWXYZ";
+        for (int text = 0; text < 4; text++) {
+            StringBuilder names = new StringBuilder();
+            for (int i = 0; i < 666; i++) {
+                int name = text * 666 + i;
+                names.append(letters.charAt(name / 52)).append(letters.charAt(name % 52)).append(' ');
+            }
+            checks.due("NAMES are no SYSTEM", -1, () -> Checks.system(x, names.toString()));
+        }
+        checks.due("a SYSTEM behind them", 1, () -> Checks.system(x, "process yes(1){let v=3;start{next s;}state s{on sig(v){say v;}}}"));
+        x.turn(0);
+        checks.due("a NAME from OUTSIDE", 1, () -> Checks.outside(x, 0, "sig", 8));
+        checks.due("INPUT", 3, () -> x.turn(0));
+        checks.due("the VARIABLE", 8, () -> Checks.variable(x, 0, "v"));
+        checks.same("TRACE", "4 0 yes -1 | 0 -1 sig 8 | 1 0 sig 8 | 7 0  8", Checks.events(x, 0));
+    }
+
+    private static void oneBehindTheOther() {
+        checks.sentence(4, "THE TAPE is the SYSTEM, and it begins (as begin) (nothing is left of what was before)");
+        String full = Checks.numbered(5, "process p#(3){let a=1;let b=2;let c=3;let d=4;let e=5;let f=6;start{next s0;}"
+            + "state s0{on m{say 1;}first n{say 2;}any{say 3;}when(1){say 4;}}state s1{}state s2{}state s3{}}")
+            + "process p5(1){start{next s0;}state s0{on m{}on n{}on k{}on a{}on b{}on c{}when(1){}any{}}}";
+        ChartHouse x = new ChartHouse();
+        for (int i = 0; i < 2; i++) {
+            checks.due("6 PROCESSES", 6, () -> Checks.system(x, full));
+            checks.due("6 PROCESSES", 6, () -> Checks.system(x, full));
+            checks.due("8 INSTANCES", 8, () -> x.count(3));
+            checks.due("a FAULT between", -1, () -> Checks.system(x, "#" + full));
+            checks.due("1 PROCESS", 1, () -> Checks.system(x, "process p0(1){start{next s0;}state s0{}}"));
+            checks.due("1 INSTANCE", 1, () -> x.count(3));
+            checks.due("START", 1, () -> x.turn(0));
+            checks.due("no when CLAUSE", 0, () -> x.turn(0));
+            Checks.outside(x, 0, "n", 0);
+            checks.due("no first CLAUSE", 5, () -> x.turn(0));
+            Checks.outside(x, 0, "m", 0);
+            checks.due("no on CLAUSE, no any", 5, () -> x.turn(0));
+            checks.refused("no VARIABLE", UnsupportedOperationException.class, () -> Checks.variable(x, 0, "a"));
+            checks.refused("one PROCESS", IllegalArgumentException.class, () -> x.walk(3, 1, 0));
+            checks.due("begin", 1, () -> x.begin());
+        }
+        checks.due("a PROCESS that was is not there", -26, () -> Checks.system(x, "process p0(1){start{make p1;}}"));
+        checks.due("a STATE that was is not there", -26, () -> Checks.system(x, "process p0(1){start{next s1;}}"));
+        checks.due("a VARIABLE that was is not there", -25, () -> Checks.system(x, "process p0(1){start{say a;}}"));
+        ChartHouse y = new ChartHouse();
+        for (int i = 0; i < 4; i++) {
+            String text = "process a(1){let v=" + i + ";start{say v;next s;}state s{on m" + i + "{say 1;}" + (i % 2 == 0 ? "any{say 2;}" : "") + "}}";
+            checks.due("1 PROCESS", 1, () -> Checks.system(y, text));
+            y.turn(0);
+            checks.same("what it says", "4 0 a -1 | 7 0  " + i, Checks.events(y, 0));
+            for (int k = 0; k < 4; k++) {
+                int due = k == i ? 3 : i % 2 == 0 ? 4 : 5;
+                Checks.outside(y, 0, "m" + k, 0);
+                checks.due("m" + k + " in SYSTEM " + i, due, () -> y.turn(0));
+            }
+        }
     }
 
     private static void whatWasStays() {

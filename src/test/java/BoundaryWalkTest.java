@@ -18,6 +18,8 @@ public final class BoundaryWalkTest {
         noneIsFound();
         thousandStates();
         foundAtTheLast();
+        thousandByManyWays();
+        largestStates();
         longestRow();
         idSixty();
         idsGivenBefore();
@@ -38,6 +40,8 @@ public final class BoundaryWalkTest {
         toldApartByTimers();
         notToldApartByNow();
         byId();
+        asEachWas();
+        walkBehindWalk();
         asBefore();
         actRange();
         actWithoutRow();
@@ -206,6 +210,53 @@ public final class BoundaryWalkTest {
         checks.due("STATES", 999, () -> w.count(11));
     }
 
+    /** Two that count, each by itself: STATES are the pairs of their numbers, most of them come to by two acts. */
+    private static ChartHouse pairs(int one, int other) {
+        ChartHouse x = Checks.begun("process a(1){let n=0;start{next s;}state s{when(n<" + (one - 1) + "){n=n+1;}}}"
+            + "process b(1){let n=0;start{next s;}state s{when(n<" + (other - 1) + "){n=n+1;}}}");
+        x.run(2);
+        return x;
+    }
+
+    private static void thousandByManyWays() {
+        checks.sentence(15, "-2: more than 1000 STATES (each counts once, however many ways lead to it)");
+        int[][] cases = {{2, 3}, {25, 40}, {40, 25}, {1, 1000}, {1000, 1}, {31, 32}};
+        for (int[] one : cases) {
+            ChartHouse x = pairs(one[0], one[1]);
+            checks.due(one[0] + " by " + one[1] + ": none", -1, () -> x.walk(LOST, 0, 0));
+            checks.due("STATES", one[0] * one[1], () -> x.count(11));
+            checks.due("STUCK", one[0] + one[1] - 2, () -> x.walk(STUCK, 0, 0));
+        }
+        for (int[] one : new int[][] {{7, 143}, {143, 7}, {1, 1001}, {32, 32}}) {
+            ChartHouse x = pairs(one[0], one[1]);
+            checks.due(one[0] + " by " + one[1], -2, () -> x.walk(LOST, 0, 0));
+            checks.due("STATES", 1000, () -> x.count(11));
+        }
+    }
+
+    private static void largestStates() {
+        checks.sentence(15, "INSTANCES with all that they have (8 with 6 VARIABLES, 8 SIGNALS and 4 TIMERS each)");
+        StringBuilder text = new StringBuilder();
+        for (char name = 'a'; name <= 'c'; name++) {
+            text.append("process ").append(name).append("(3){let u=1;let v=2;let w=3;let x=4;let y=5;let z=6;start{set p 9;set q 9;set r 9;set t 9;next s;}"
+                + "state s{save m;when(z==7){z=8;next d;}when(now<9){if(self==7){if(z<600){z=z+1;if(z==7){z=9;}}}}}state d{}}");
+        }
+        ChartHouse x = Checks.begun(text.toString());
+        x.run(8);
+        for (int id = 0; id < 8; id++) {
+            for (int i = 0; i < 8; i++) {
+                Checks.outside(x, id, "m", id * 8 + i);
+            }
+        }
+        checks.due("SIGNALS", 64, () -> x.count(7));
+        checks.due("TIMERS", 32, () -> x.count(8));
+        // z of id 7 goes from 6 to 9 and then on to 600; each of the others only does what changes nothing.
+        checks.due("none is THROWN AWAY", -1, () -> x.walk(THROWN, 0, 0));
+        checks.due("STATES", 593, () -> x.count(11));
+        checks.due("SIGNALS", 64, () -> x.count(7));
+        checks.due("the last SIGNAL of the last", 63, () -> x.queue(7, 7, 0));
+    }
+
     private static void longestRow() {
         checks.sentence(15, "The ROW: the ids of TURNS (-1: TIME) up to the first such (behind 1000 STATES)");
         ChartHouse x = counting(999, "when(n==999){send m to parent;}");
@@ -272,6 +323,8 @@ public final class BoundaryWalkTest {
         z.run(181);
         checks.due("61 ids", 61, () -> z.count(4));
         checks.due("id 61 would be given", -2, () -> z.walk(STUCK, 0, 0));
+        Checks.outside(x, 0, "other", 0);
+        walks(x, "a TURN that gives no id", "1: 0 of 2", THROWN);
         z.begin();
         z.run(178);
         checks.due("60 ids", 60, () -> z.count(4));
@@ -338,6 +391,14 @@ public final class BoundaryWalkTest {
         walks(w, "NOW is as it would be", "2: -1 0 of 3", IN, 0, 1);
         w.time(2);
         walks(w, "from NOW on", "2: -1 0 of 3", IN, 0, 1);
+        ChartHouse n = inState("on m{set p 0;set q 1;}save p;save q;");
+        Checks.outside(n, 0, "m", 0);
+        n.turn(0);
+        walks(n, "one that is due at NOW, then one that is due 1 later", "2: -1 -1 of 3", STUCK);
+        ChartHouse o = Checks.begun("process a(3){start{set t 5;next s;}state s{save t;}}process b(3){start{set t 6;next s;}state s{save t;}}"
+            + "process c(2){start{set t 6;next s;}state s{save t;}}");
+        o.run(8);
+        walks(o, "with 8 INSTANCES", "2: -1 -1 of 3", STUCK);
         ChartHouse u = inState("on m{set t 1;}save k;");
         Checks.outside(u, 0, "m", 0);
         u.turn(0);
@@ -356,6 +417,10 @@ public final class BoundaryWalkTest {
         Checks.outside(y, 0, "m", 0);
         y.turn(0);
         walks(y, "with a TIMER it is not yet", "1: -1 of 2", STUCK);
+        ChartHouse z = inState("on m{set t 0;}save t;");
+        Checks.outside(z, 0, "m", 0);
+        z.turn(0);
+        walks(z, "nor with one that is due at NOW", "1: -1 of 2", STUCK);
         walks(Checks.begun("process a(1){start{stop;}}"), "where none is there it is", "1: 0 of 2", STUCK);
     }
 
@@ -495,6 +560,37 @@ public final class BoundaryWalkTest {
         z.turn(2);
         z.walk(IN, 2, 1);
         checks.same("the shortest", "1 2", Checks.row(z));
+    }
+
+    private static void asEachWas() {
+        checks.sentence(15, "from each .. a TURN of each INSTANCE (from the STATE as it was come to)");
+        ChartHouse x = Checks.begun("process a(1){let n=0;start{next s;}state s{when(n<3){n=n+1;send m(n)to b;}}}"
+            + "process b(1){let v=0;start{next s;}state s{on m(v){}}}");
+        x.turn(0);
+        x.turn(1);
+        // So many sent, so many of them taken: 4 + 3 + 2 + 1, and the first take changes sender.
+        walks(x, "values in the QUEUE", "-1:  of 10", LOST);
+        ChartHouse y = Checks.begun("process a(2){start{send m to b;next s;}state s{}}process b(1){start{next s;}state s{on m{}}}");
+        y.turn(2);
+        walks(y, "senders in the QUEUE: 11 STATES, written out by hand", "-1:  of 11", LOST);
+        ChartHouse z = inState("when(now==7){next t;}");
+        z.time(7);
+        walks(z, "NOW", "1: 0 of 2", IN, 0, 1);
+    }
+
+    private static void walkBehindWalk() {
+        checks.sentence(15, "A walk from what there is now (nothing is left of a walk before)");
+        ChartHouse x = inState("when(n<2){n=n+1;}when(n==2){n=3;send m to parent;send m to self;}");
+        walks(x, "STUCK, by way of LOST and THROWN AWAY", "4: 0 0 0 0 of 5", STUCK);
+        walks(x, "LOST", "3: 0 0 0 of 4", LOST);
+        walks(x, "STUCK", "4: 0 0 0 0 of 5", STUCK);
+        walks(x, "THROWN AWAY", "4: 0 0 0 0 of 5", THROWN);
+        walks(x, "LOST", "3: 0 0 0 of 4", LOST);
+        walks(x, "IN", "-1:  of 5", IN, 0, 1);
+        x.run(1);
+        walks(x, "one TURN later", "2: 0 0 of 3", LOST);
+        Checks.system(x, "process b(1){start{stop;}}");
+        walks(x, "another SYSTEM", "-1:  of 2", LOST);
     }
 
     private static String all(ChartHouse x) {
