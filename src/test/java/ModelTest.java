@@ -84,14 +84,29 @@ public final class ModelTest {
     // ---------------------------------------------------------------- one object and its model
 
     static final class Session {
+        /** A call on the object that is asked just now: a session uses several, one behind the other. */
+        interface Asked {
+            long of(ChartHouse house);
+        }
+
+        static final int MOST_CALLS = 512;
+        // Behind this many told calls there is room for one more of any kind and for what is then looked at.
+        static final int TOLD_CALLS = 250;
+
         final Random random;
         final Checks checks;
         final Tally tally;
         final int seed;
-        final ChartHouse house = new ChartHouse();
         final Model model = new Model();
         final StringBuilder log = new StringBuilder();
+        ChartHouse house = new ChartHouse();
         int calls;
+        // What changed something, so that a new object can be brought to where the old one is.
+        final List<Asked> told = new ArrayList<>();
+        final List<Integer> costs = new ArrayList<>();
+        int toldCalls;
+        int latestWalk = -1;
+        int latestChart = -1;
 
         Session(int seed, Checks checks, Tally tally) {
             this.seed = seed;
@@ -105,7 +120,7 @@ public final class ModelTest {
             for (int i = 0; i < 4 && !begun; i++) {
                 begun = system();
             }
-            for (int i = 0; i < 40 && calls < 430; i++) {
+            for (int i = 0; i < 40 && toldCalls < TOLD_CALLS; i++) {
                 step();
             }
             observe();
@@ -113,12 +128,12 @@ public final class ModelTest {
 
         boolean system() {
             String text = new Draw(random).system();
-            log.append("\nsystem ").append(text);
-            int want = model.system(text);
-            tally.note(want >= 0 ? "stands" : model.faultKind);
-            same("system", want, () -> Checks.system(house, text));
-            calls += 3 + text.length() / 20;
-            return want > 0;
+            long answer = ask("system " + text, onTape(text), () -> model.system(text), x -> Checks.system(x, text));
+            tally.note(answer >= 0 ? "stands" : model.faultKind);
+            if (answer >= 0) {
+                tell(onTape(text), x -> Checks.system(x, text));
+            }
+            return answer > 0;
         }
 
         void step() {
@@ -127,31 +142,28 @@ public final class ModelTest {
             if (n < 22) {
                 String name = Draw.pick(random, Draw.SIGNALS);
                 int value = random.nextInt(6) - 1;
-                both("outside " + id + " " + name + " " + value, () -> model.outside(id, name, value),
-                    () -> Checks.outside(house, id, name, value));
-                calls += 3;
+                both("outside " + id + " " + name + " " + value, onTape(name), () -> model.outside(id, name, value),
+                    x -> Checks.outside(x, id, name, value));
             } else if (n < 50) {
-                both("turn " + id, () -> model.turn(id), () -> house.turn(id));
+                both("turn " + id, 1, () -> model.turn(id), x -> x.turn(id));
             } else if (n < 66) {
                 int many = random.nextInt(8);
-                both("run " + many, () -> model.run(many), () -> house.run(many));
+                both("run " + many, 1, () -> model.run(many), x -> x.run(many));
             } else if (n < 78) {
                 int more = random.nextInt(5);
-                both("time " + more, () -> model.time(more), () -> house.time(more));
+                both("time " + more, 1, () -> model.time(more), x -> x.time(more));
             } else if (n < 86) {
                 walk();
             } else if (n < 94) {
                 chart();
             } else if (n < 96) {
-                both("begin", () -> model.begin(), () -> house.begin());
+                both("begin", 1, () -> model.begin(), x -> x.begin());
             } else if (n < 97) {
                 system();
             } else {
                 String name = Draw.pick(random, Draw.VARIABLES);
-                both("variable " + id + " " + name, () -> model.variable(id, name), () -> Checks.variable(house, id, name));
-                calls += 3;
+                ask("variable " + id + " " + name, onTape(name), () -> model.variable(id, name), x -> Checks.variable(x, id, name));
             }
-            calls++;
             counts();
         }
 
@@ -159,18 +171,17 @@ public final class ModelTest {
             int what = random.nextInt(4);
             int p = random.nextInt(3);
             int s = random.nextInt(4);
-            long answer = both("walk " + what + " " + p + " " + s, () -> model.walk(what, p, s), () -> house.walk(what, p, s));
-            tally.note(answer >= 0 ? "walk found" : answer < -2 ? "walk refused" : "walk " + answer);
-            same("row", model.row.toString(), rowOf());
-            calls += 20;
-        }
-
-        String rowOf() {
-            List<Integer> row = new ArrayList<>();
-            for (int i = 0; i < house.count(12); i++) {
-                row.add(house.act(i));
+            long answer = ask("walk " + what + " " + p + " " + s, 1, () -> model.walk(what, p, s), x -> x.walk(what, p, s));
+            if (answer >= -2) {
+                forget(latestWalk);
+                tell(1, x -> x.walk(what, p, s));
+                latestWalk = told.size() - 1;
             }
-            return row.toString();
+            tally.note(answer >= 0 ? "walk found" : answer < -2 ? "walk refused" : "walk " + answer);
+            for (int i = 0; i < model.row.size(); i++) {
+                int at = i;
+                same("act " + i, 1, model.row.get(i), x -> x.act(at));
+            }
         }
 
         void chart() {
@@ -178,27 +189,31 @@ public final class ModelTest {
             if (text.length() > 1900) {
                 return;
             }
-            both("chart " + text, () -> model.chart(text), () -> Checks.chart(house, text));
-            long fits = both("fits", () -> model.fits() ? 1 : 0, () -> house.fits() ? 1 : 0);
+            long answer = ask("chart " + text, onTape(text), () -> model.chart(text), x -> Checks.chart(x, text));
+            if (answer >= 0) {
+                forget(latestChart);
+                tell(onTape(text), x -> Checks.chart(x, text));
+                latestChart = told.size() - 1;
+            }
+            long fits = ask("fits", 1, () -> model.fits() ? 1 : 0, x -> x.fits() ? 1 : 0);
             if (fits == 1 && !model.messages.isEmpty()) {
                 tally.note("fits");
             }
-            long races = both("races", () -> model.races().size(), () -> house.races());
+            long races = ask("races", 1, () -> model.races().size(), x -> x.races());
             List<int[]> due = races > 0 ? model.races() : List.of();
             for (int i = 0; i < races; i++) {
                 int race = i;
                 tally.note("race");
-                same("race first", due.get(i)[0], () -> house.race(race, 0));
-                same("race other", due.get(i)[1], () -> house.race(race, 1));
+                same("race first", 1, due.get(i)[0], x -> x.race(race, 0));
+                same("race other", 1, due.get(i)[1], x -> x.race(race, 1));
             }
-            calls += 8 + text.length() / 20;
         }
 
         void counts() {
             long[] want = model.counts();
             for (int what = 2; what < want.length; what++) {
                 int asked = what;
-                same("count " + what, want[what], () -> house.count(asked));
+                same("count " + what, 1, want[what], x -> x.count(asked));
             }
             if (want[9] > 0) {
                 tally.note("lost");
@@ -212,30 +227,76 @@ public final class ModelTest {
             if (model.system == null) {
                 return;
             }
-            same("events", model.events(), Checks.events(house, 0));
+            List<String> events = model.events();
+            for (int i = 0; i < events.size(); i++) {
+                // An event as a text takes five calls, and one for each byte of its name.
+                need(5 + 12);
+                same("event " + i, events.get(i), Checks.event(house, i));
+            }
             for (Model.Inst who : model.alive) {
+                need(1 + 8 * (4 + 12));
                 same("queue of " + who.id, who.queueText(), Checks.queue(house, who.id));
                 for (int what = 0; what < 7; what++) {
                     int asked = what;
-                    same("look " + who.id + " " + what, model.look(who, what), () -> house.look(who.id, asked));
+                    same("look " + who.id + " " + what, 1, model.look(who, what), x -> x.look(who.id, asked));
                 }
                 for (String name : who.values.keySet()) {
-                    same("variable " + name, who.values.get(name), () -> Checks.variable(house, who.id, name));
+                    same("variable " + name, onTape(name), who.values.get(name), x -> Checks.variable(x, who.id, name));
                 }
             }
         }
 
-        long both(String what, Checks.Call wanted, Checks.Call call) {
+        /** How many calls it takes to bring a text to the tape and to have it read. */
+        static int onTape(String text) {
+            return (text.length() + 19) / 20 + 2;
+        }
+
+        /** A call that changes something. */
+        long both(String what, int cost, Checks.Call wanted, Asked asked) {
+            long answer = ask(what, cost, wanted, asked);
+            tell(cost, asked);
+            return answer;
+        }
+
+        long ask(String what, int cost, Checks.Call wanted, Asked asked) {
             log.append("\n").append(what);
             String want = Checks.answerOf(wanted);
-            String got = Checks.answerOf(call);
             log.append(" -> ").append(want);
-            same(what, want, got);
+            need(cost);
+            same(what, want, Checks.answerOf(() -> asked.of(house)));
             return want.startsWith("throws") ? Long.MIN_VALUE : Long.parseLong(want);
         }
 
-        void same(String what, long want, Checks.Call call) {
-            same(what, "" + want, Checks.answerOf(call));
+        void tell(int cost, Asked asked) {
+            told.add(asked);
+            costs.add(cost);
+            toldCalls += cost;
+        }
+
+        /** A walk and a chart leave nothing behind when the next one comes. */
+        void forget(int index) {
+            if (index >= 0) {
+                toldCalls -= costs.get(index);
+                told.set(index, x -> 0);
+                costs.set(index, 0);
+            }
+        }
+
+        /** Behind its 512th call nothing is promised of an object, so a new one takes its place in time. */
+        void need(int cost) {
+            if (calls + cost > MOST_CALLS) {
+                house = new ChartHouse();
+                for (Asked asked : told) {
+                    Checks.answerOf(() -> asked.of(house));
+                }
+                calls = toldCalls;
+            }
+            calls += cost;
+        }
+
+        void same(String what, int cost, long want, Asked asked) {
+            need(cost);
+            same(what, "" + want, Checks.answerOf(() -> asked.of(house)));
         }
 
         void same(String what, String want, String got) {
@@ -1272,13 +1333,13 @@ public final class ModelTest {
             return new int[] {who.process, who.state, who.queue.size(), who.timers.size(), who.parent, who.sender, who.child}[what];
         }
 
-        String events() {
-            StringBuilder text = new StringBuilder();
+        List<String> events() {
+            List<String> texts = new ArrayList<>();
             for (int i = 0; i < trace.size() && i < 400; i++) {
                 Event event = trace.get(i);
-                text.append(i > 0 ? " | " : "").append(event.kind + " " + event.id + " " + event.name + " " + event.value);
+                texts.add(event.kind + " " + event.id + " " + event.name + " " + event.value);
             }
-            return text.toString();
+            return texts;
         }
 
         long[] counts() {
