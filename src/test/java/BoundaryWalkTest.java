@@ -25,6 +25,7 @@ public final class BoundaryWalkTest {
         idsGivenBefore();
         makeThatGivesNoId();
         foundAheadOfTooMuch();
+        foundByTheActThatIsTooMuch();
         timeOnlyIfNoneCan();
         timeUpToTheNext();
         stuck();
@@ -353,6 +354,28 @@ public final class BoundaryWalkTest {
         ChartHouse y = Checks.begun(making(61));
         walks(y, "IN ahead of id 61", "1: 0 of 2", IN);
         checks.due("STATES anew", 2, () -> y.count(11));
+    }
+
+    private static void foundByTheActThatIsTooMuch() {
+        checks.sentence(15, "-2: more than 1000 STATES, or an id above 60 would be given (by the very act that also leads to what is looked for)");
+        ChartHouse x = counting(999, "when(n==999){n=1000;next t;}");
+        checks.due("the 1001st is IN", -2, () -> x.walk(IN, 0, 1));
+        ChartHouse y = counting(999, "when(n==999){n=1000;send m to parent;}");
+        checks.due("LOST on the way to the 1001st", -2, () -> y.walk(LOST, 0, 0));
+        checks.due("STATES", 1000, () -> y.count(11));
+        checks.due("acts", 0, () -> y.count(12));
+        ChartHouse z = counting(999, "save m;");
+        Checks.outside(z, 0, "m", 0);
+        checks.due("saved", -1, () -> z.walk(THROWN, 0, 0));
+        ChartHouse w = Checks.begun("process a(1){let n=0;start{next s;}state s{save m;when(n<998){n=n+1;}when(n==998){next t;}}state t{}}");
+        w.turn(0);
+        Checks.outside(w, 0, "m", 0);
+        checks.due("THROWN AWAY on the way to the 1001st", -2, () -> w.walk(THROWN, 0, 0));
+        String lastMakes = "process m(1){let n=0;start{next s;}state s{when(n<60){n=n+1;make w;next t;}when(n==60){n=61;send no to child;make w;next u;}}"
+            + "state t{on ready{next s;}}state u{}}process w(0){start{send ready to parent;stop;}}";
+        ChartHouse v = Checks.begun(lastMakes);
+        checks.due("LOST, and id 61", -2, () -> v.walk(LOST, 0, 0));
+        checks.due("IN, and id 61", -2, () -> v.walk(IN, 0, 2));
     }
 
     // ---------------------------------------------------------------- TIME
