@@ -5,7 +5,8 @@ import java.util.Random;
 
 /**
  * Any arguments in any state: a call throws nothing but what the document names for it, and a call
- * that throws changes nothing but the tape. Also behind the 512th call, where answers are free.
+ * that throws changes nothing but the tape. Behind the 512th call answers are free: there the test
+ * asks only that nothing else is thrown.
  */
 public final class RobustTest {
     private static final int[] EDGES = {Integer.MIN_VALUE, -1000000, -2, -1, 0, 1, 2, 3, 5, 6, 7, 8, 12, 13, 14, 20, 60, 61,
@@ -18,20 +19,38 @@ public final class RobustTest {
         "process a(1){start{say ------1;}}", "", "a>b:m;b>a:n;out>a:k;a>out:k;", "a>b:m;c>b:m;d>b:m;", "m", "t", "v", "k", "  x ", "process",
         "process a(1){start{next z;}}", "process a(", "a>", "\u0000\u00ff"};
 
+    private static final int PROMISED_CALLS = 512;
+    // The longest of the texts, the call, and what is counted ahead of it and behind it.
+    private static final int CALLS_OF_A_STEP = 13 + 3 + 1 + 2 * 13;
+
     private static int calls;
     private static int wrong;
+    // Of the object that is used just now.
+    private static int used;
+    private static boolean compares;
 
     public static void main(String[] args) {
+        for (int seed = 1; seed <= 6000; seed++) {
+            Random random = new Random(seed);
+            ChartHouse x = new ChartHouse();
+            used = 0;
+            compares = true;
+            while (used + CALLS_OF_A_STEP <= PROMISED_CALLS) {
+                step(x, random, seed);
+            }
+        }
+        lastNames();
+        compares = false;
         for (int seed = 1; seed <= 300; seed++) {
             Random random = new Random(seed);
             ChartHouse x = new ChartHouse();
-            int many = seed % 10 == 0 ? 3000 : 512;
+            int many = seed % 10 == 0 ? 10000 : 1000;
             for (int i = 0; i < many; i++) {
                 step(x, random, seed);
             }
         }
         manyNames();
-        System.out.println(calls + " calls, " + wrong + " threw what they must not");
+        System.out.println(calls + " calls, " + wrong + " threw what they must not or changed something");
         if (wrong != 0) {
             System.exit(1);
         }
@@ -80,12 +99,15 @@ public final class RobustTest {
     }
 
     private static void text(ChartHouse x, Random random) {
+        String text = TEXTS[random.nextInt(TEXTS.length)];
         x.end(0);
-        Checks.tape(x, TEXTS[random.nextInt(TEXTS.length)]);
+        Checks.tape(x, text);
+        used += 2 + (text.length() + 19) / 20;
     }
 
     private static void tries(ChartHouse x, String what, Checks.Call call, Class<?>... allowed) {
         calls++;
+        used++;
         String before = sums(x);
         try {
             call.answer();
@@ -102,34 +124,64 @@ public final class RobustTest {
         }
     }
 
+    /** All that can be counted but the tape. */
     private static String sums(ChartHouse x) {
+        if (!compares) {
+            return "";
+        }
         StringBuilder text = new StringBuilder();
         for (int what = 1; what <= 13; what++) {
             text.append(x.count(what)).append(' ');
         }
+        used += 13;
         return text.toString();
     }
 
-    /** A thousand different names on one tape, and then a new one with each call. */
-    private static void manyNames() {
-        StringBuilder text = new StringBuilder("process p(1){start{next s;}state s{on go{");
+    /** A system with as many different names as its text has room for; its instance takes any signal. */
+    private static ChartHouse namesOfOneTape() {
+        StringBuilder text = new StringBuilder("process p(1){start{next s;}state s{any{}on go{");
         for (int i = 0; text.length() < 1980; i++) {
-            text.append("reset ").append((char) ('a' + i % 26)).append(i).append(';');
+            text.append("set ").append((char) ('a' + i % 26)).append(i).append(" 1;");
         }
         ChartHouse x = Checks.begun(text.append("}}}").toString());
         x.turn(0);
-        for (int i = 0; i < 2000; i++) {
-            Checks.outside(x, 0, "name" + i, i);
-            if (i < 130) {
-                x.queue(0, 0, 2);
-                String name = Checks.out(x);
-                if (!name.equals("name" + i)) {
-                    wrong++;
-                    System.out.println("name" + i + " came back as " + name);
-                }
-            }
-            x.turn(0);
+        return x;
+    }
+
+    /** As many names from outside as 512 calls can bring: the last two come back as they came. */
+    private static void lastNames() {
+        ChartHouse x = namesOfOneTape();
+        int spent = 103;
+        int brought = 0;
+        while (spent + 3 + 2 * 7 <= PROMISED_CALLS) {
+            Checks.outside(x, 0, "n" + brought, brought);
+            brought++;
+            spent += 3;
             calls++;
+        }
+        // The queue is full behind 8: each is sent and then lost, and what is lost bears the name, too.
+        comesBack(x, 2 * brought - 8, "n" + (brought - 1));
+        comesBack(x, 2 * brought - 10, "n" + (brought - 2));
+    }
+
+    private static void comesBack(ChartHouse x, int event, String want) {
+        x.event(event, 3);
+        String name = Checks.out(x);
+        if (!name.equals(want)) {
+            wrong++;
+            System.out.println(want + " came back as " + name);
+        }
+    }
+
+    private static void manyNames() {
+        ChartHouse x = namesOfOneTape();
+        for (int i = 0; i < 3000; i++) {
+            String name = "name" + i;
+            int value = i;
+            Checks.tape(x, name);
+            tries(x, name, () -> x.outside(0, value));
+            tries(x, name, () -> x.queue(0, 0, 2));
+            tries(x, name, () -> x.turn(0));
         }
     }
 }
